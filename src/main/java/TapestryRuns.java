@@ -329,6 +329,21 @@ public final class TapestryRuns {
         }
     }
 
+    private static void fillNumbers(int[] numbers, int number) {
+        for (int place = 0; place < numbers.length; place++) {
+            numbers[place] = number;
+        }
+    }
+
+    /** The checksum d, gone on with the first so many of the numbers. */
+    private static long digested(long d, int[] numbers, int many) {
+        long next = d;
+        for (int place = 0; place < many; place++) {
+            next = next * 31 + numberAt(numbers, place);
+        }
+        return next;
+    }
+
     /** A number for each cell; beyond the cloth there is 0, and what is put there is lost. */
     private static final class Grid {
         private final int[] numbers = new int[CELLS];
@@ -348,17 +363,11 @@ public final class TapestryRuns {
         }
 
         void fill(int number) {
-            for (int place = 0; place < CELLS; place++) {
-                putNumber(numbers, place, number);
-            }
+            fillNumbers(numbers, number);
         }
 
-        long digestFrom(long start) {
-            long d = start;
-            for (int place = 0; place < CELLS; place++) {
-                d = d * 31 + numberAt(numbers, place);
-            }
-            return d;
+        long digestFrom(long d) {
+            return digested(d, numbers, CELLS);
         }
     }
 
@@ -398,20 +407,19 @@ public final class TapestryRuns {
 
         int nearestTo(int wanted) {
             int nearest = 0;
+            int least = distance(0, wanted);
             for (int colour = 1; colour < boxes; colour++) {
-                if (distance(colour, wanted) < distance(nearest, wanted)) {
+                int here = distance(colour, wanted);
+                if (here < least) {
                     nearest = colour;
+                    least = here;
                 }
             }
             return nearest;
         }
 
-        long digestFrom(long start) {
-            long d = start;
-            for (int colour = 0; colour < boxes; colour++) {
-                d = d * 31 + shadeOf(colour);
-            }
-            return d;
+        long digestFrom(long d) {
+            return digested(d, shades, boxes);
         }
 
         private int distance(int colour, int wanted) {
@@ -419,9 +427,7 @@ public final class TapestryRuns {
         }
 
         private void tallyShades(Grid pattern) {
-            for (int shade = 0; shade < SHADES; shade++) {
-                putNumber(tally, shade, 0);
-            }
+            fillNumbers(tally, 0);
             for (int y = 0; y < ROWS; y++) {
                 for (int x = 0; x < COLUMNS; x++) {
                     int shade = pattern.at(x, y);
@@ -499,9 +505,7 @@ public final class TapestryRuns {
         void make(Grid pattern, int many, int way, boolean turning) {
             dyes.fit(pattern, many);
             carried.fill(0);
-            for (int colour = 0; colour < MOST_COLOURS; colour++) {
-                putNumber(used, colour, 0);
-            }
+            fillNumbers(used, 0);
             off = 0;
             for (int y = 0; y < ROWS; y++) {
                 boolean back = turning && y % 2 == 1;
@@ -565,8 +569,8 @@ public final class TapestryRuns {
             return knots;
         }
 
-        long digestFrom(long start) {
-            return woven.digestFrom(dyes.digestFrom(start));
+        long digestFrom(long d) {
+            return woven.digestFrom(dyes.digestFrom(d));
         }
 
         private void makeRow(Grid pattern, int y, int way, boolean back) {
@@ -628,9 +632,7 @@ public final class TapestryRuns {
         private final int[] threads = new int[MOST_COLOURS];
 
         Spools() {
-            for (int colour = 0; colour < MOST_COLOURS; colour++) {
-                putNumber(threads, colour, FIRST_THREAD);
-            }
+            fillNumbers(threads, FIRST_THREAD);
         }
 
         int holds(int colour) {
@@ -664,12 +666,8 @@ public final class TapestryRuns {
             }
         }
 
-        long digestFrom(long start) {
-            long d = start;
-            for (int colour = 0; colour < MOST_COLOURS; colour++) {
-                d = d * 31 + holds(colour);
-            }
-            return d;
+        long digestFrom(long d) {
+            return digested(d, threads, MOST_COLOURS);
         }
     }
 }
