@@ -32,19 +32,20 @@ public final class NewObjectTest {
         TapestryRuns loom = new TapestryRuns();
         Checks.same("cells of no cloth", Patterns.threads(loom, 1), "0 0 0 0 0 0");
         Checks.same("shades of no cloth", Patterns.threads(loom, 2), "-1 -1 -1 -1 -1 -1");
-        Checks.wrongState(loom, "cell", () -> loom.cell(0, 0));
-        Checks.wrongState(loom, "run", () -> loom.run(0, 0, 0));
-        Checks.wrongState(loom, "knots", () -> loom.knots(0));
+        Checks.same("off of no cloth", loom.count(6), 0);
+        Checks.same("knots of no cloth", loom.count(7), 0);
+        Refusals.wrongState(TapestryRuns::new, "cell", asked -> asked.cell(0, 0));
+        Refusals.wrongState(TapestryRuns::new, "run", asked -> asked.run(0, 0, 0));
+        Refusals.wrongState(TapestryRuns::new, "knots", asked -> asked.knots(0));
     }
 
     private static void objectsAreApart() {
         TapestryRuns one = new TapestryRuns();
         TapestryRuns other = new TapestryRuns();
-        long before = other.digest();
         one.set(0, 0, 5);
         one.setColours(6);
         one.wind(2, 9);
         one.weave();
-        Checks.same("the other's digest", other.digest(), before);
+        Checks.same("what the other answers", Answers.of(other), Answers.of(new TapestryRuns()));
     }
 }

@@ -8,31 +8,39 @@ public final class WouldTest {
         wouldOfFewerColours();
         wouldAsTheLoomIs();
         wouldWithoutThread();
-        wouldRefuses();
+        wouldChangesNothing();
+        wouldBeyondItsBounds();
         adviseOfASlope();
-        adviseTheFewest();
+        adviseOfPressedRows();
+        adviseTheLeastOff();
+        adviseTheFewestOfSeveral();
         adviseNone();
-        adviseRefuses();
+        adviseUpToAllCells();
+        adviseWithoutThread();
+        adviseChangesNothing();
+        adviseBeyondItsBounds();
         Checks.end();
     }
 
     private static void wouldOfASlope() {
         TapestryRuns loom = Patterns.slope();
-        long before = loom.digest();
         for (int many = 2; many <= 6; many++) {
             Checks.same("colours of " + many, loom.would(many, 0), many);
             Checks.same("off of " + many, loom.would(many, 1), SLOPE_OFF[many - 2]);
             Checks.same("knots of " + many, loom.would(many, 2), SLOPE_KNOTS[many - 2]);
         }
-        Checks.same("nothing is changed", loom.digest(), before);
     }
 
     private static void wouldOfFewerColours() {
         TapestryRuns loom = Patterns.darkRow();
+        Checks.same("colours of 3", loom.would(3, 0), 3);
         Checks.same("colours of 4", loom.would(4, 0), 4);
+        Checks.same("colours of 5", loom.would(5, 0), 4);
         Checks.same("colours of 6", loom.would(6, 0), 4);
         Checks.same("off of 6", loom.would(6, 1), 0);
+        Checks.same("off of 3", loom.would(3, 1), 12 * 59);
         Checks.same("off of 2", loom.would(2, 1), 12 * 88);
+        Checks.same("of one shade", new TapestryRuns().would(6, 0), 1);
     }
 
     private static void wouldAsTheLoomIs() {
@@ -51,42 +59,85 @@ public final class WouldTest {
         Checks.same("of the pattern now", loom.would(2, 1), 4800);
     }
 
-    private static void wouldWithoutThread() {
+    private static TapestryRuns withoutThread() {
         TapestryRuns loom = new TapestryRuns();
         loom.weave();
         loom.weave();
-        Checks.wrongState(loom, "weave", () -> loom.weave());
+        return loom;
+    }
+
+    private static void wouldWithoutThread() {
+        Refusals.wrongState(WouldTest::withoutThread, "weave", loom -> loom.weave());
+        TapestryRuns loom = withoutThread();
+        Checks.same("would(2, 0)", loom.would(2, 0), 1);
+        Checks.same("would(2, 1)", loom.would(2, 1), 0);
         Checks.same("would(2, 2)", loom.would(2, 2), 16);
-        Checks.same("advise(16)", loom.advise(16), 2);
+        Checks.same("thread stays", loom.thread(0, 0), 8);
     }
 
-    private static void wouldRefuses() {
-        TapestryRuns loom = Patterns.slope();
-        loom.weave();
-        Checks.illegal(loom, "would(1, 0)", () -> loom.would(1, 0));
-        Checks.illegal(loom, "would(7, 0)", () -> loom.would(7, 0));
-        Checks.illegal(loom, "would(7, 3)", () -> loom.would(7, 3));
-        Checks.outOfBounds(loom, "would(2, -1)", () -> loom.would(2, -1));
-        Checks.outOfBounds(loom, "would(6, 3)", () -> loom.would(6, 3));
+    private static void wouldChangesNothing() {
+        for (int many = 2; many <= 6; many++) {
+            for (int what = 0; what <= 2; what++) {
+                int colours = many;
+                int asked = what;
+                Refusals.changesNothing("would(" + many + ", " + what + ")", loom -> loom.would(colours, asked));
+            }
+        }
     }
 
+    private static void wouldBeyondItsBounds() {
+        for (int many : Bounds.beyond(2, 6)) {
+            Refusals.illegal("would(" + many + ", 0)", loom -> loom.would(many, 0));
+            Refusals.illegal("would(" + many + ", -1)", loom -> loom.would(many, -1));
+            Refusals.illegal("would(" + many + ", 3)", loom -> loom.would(many, 3));
+        }
+        for (int what : Bounds.beyond(0, 2)) {
+            Refusals.outOfBounds("would(2, " + what + ")", loom -> loom.would(2, what));
+            Refusals.outOfBounds("would(6, " + what + ")", loom -> loom.would(6, what));
+        }
+    }
+
+    /** Each number of knots: one less than some cloth has, as many, and one more are among them. */
     private static void adviseOfASlope() {
         TapestryRuns loom = Patterns.slope();
         loom.weave();
-        long before = loom.digest();
         for (int knots = 0; knots <= 96; knots++) {
             int due = knots < 16 ? -1 : Math.min(6, knots / 8);
             Checks.same("advise(" + knots + ")", loom.advise(knots), due);
         }
-        Checks.same("nothing is changed", loom.digest(), before);
+    }
+
+    private static void adviseOfPressedRows() {
+        TapestryRuns loom = Patterns.slope();
         loom.setPressing(true);
+        Checks.same("pressed, 14", loom.advise(14), 6);
         Checks.same("pressed, 13", loom.advise(13), 6);
         Checks.same("pressed, 12", loom.advise(12), 5);
         Checks.same("pressed, 9", loom.advise(9), 2);
         Checks.same("pressed, 8", loom.advise(8), -1);
     }
 
-    private static void adviseTheFewest() {
+    /** Four colours are 15, 20, 160 and 170; five are 15, 20, 160, 165 and 175; six are 10, 20, 20, 160, 165 and 175. */
+    private static void adviseTheLeastOff() {
+        TapestryRuns loom = Patterns.ofRows(10, 20, 20, 160, 160, 170, 170, 180);
+        loom.setCarry(1);
+        Checks.same("off of 4", loom.would(4, 1), 12 * 5 + 12 * 10);
+        Checks.same("off of 5", loom.would(5, 1), 12 * 5 + 24 * 5 + 12 * 5);
+        Checks.same("off of 6", loom.would(6, 1), 24 * 5 + 12 * 5);
+        Checks.same("5 is off by more than 4, 6 is not off by less", loom.advise(96), 4);
+        loom.set(11, 5, 171);
+        Checks.same("off of 4 then", loom.would(4, 1), 180 + 1);
+        Checks.same("off of 6 then", loom.would(6, 1), 180 - 1);
+        Checks.same("6 is off by less", loom.advise(96), 6);
+        loom.set(11, 5, 170);
+        loom.set(11, 0, 11);
+        Checks.same("off of 4 at last", loom.would(4, 1), 180 - 1);
+        Checks.same("off of 6 at last", loom.would(6, 1), 180 + 1);
+        Checks.same("6 is off by more", loom.advise(96), 4);
+        Checks.same("not the told number of colours", Patterns.slope().advise(96), 6);
+    }
+
+    private static void adviseTheFewestOfSeveral() {
         TapestryRuns loom = Patterns.darkRow();
         Checks.same("4, 5 and 6 are off by 0", loom.advise(96), 4);
         Checks.same("16 are enough", loom.advise(16), 4);
@@ -95,13 +146,39 @@ public final class WouldTest {
 
     private static void adviseNone() {
         TapestryRuns loom = new TapestryRuns();
-        Checks.same("advise(15)", loom.advise(15), -1);
         Checks.same("advise(0)", loom.advise(0), -1);
+        Checks.same("advise(1)", loom.advise(1), -1);
+        Checks.same("advise(15)", loom.advise(15), -1);
+        Checks.same("advise(16)", loom.advise(16), 2);
+        Checks.same("advise(17)", loom.advise(17), 2);
+        loom.setPressing(true);
+        Checks.same("pressed, advise(8)", loom.advise(8), -1);
+        Checks.same("pressed, advise(9)", loom.advise(9), 2);
     }
 
-    private static void adviseRefuses() {
-        TapestryRuns loom = new TapestryRuns();
-        Checks.illegal(loom, "advise(-1)", () -> loom.advise(-1));
-        Checks.illegal(loom, "advise(97)", () -> loom.advise(97));
+    private static void adviseUpToAllCells() {
+        TapestryRuns loom = Patterns.chequered();
+        Checks.same("knots", loom.would(6, 2), 96);
+        Checks.same("advise(94)", loom.advise(94), -1);
+        Checks.same("advise(95)", loom.advise(95), -1);
+        Checks.same("advise(96)", loom.advise(96), 2);
+    }
+
+    private static void adviseWithoutThread() {
+        TapestryRuns loom = withoutThread();
+        Checks.same("advise(16)", loom.advise(16), 2);
+        Checks.same("advise(15)", loom.advise(15), -1);
+    }
+
+    private static void adviseChangesNothing() {
+        for (int knots : Bounds.within(0, 96)) {
+            Refusals.changesNothing("advise(" + knots + ")", loom -> loom.advise(knots));
+        }
+    }
+
+    private static void adviseBeyondItsBounds() {
+        for (int knots : Bounds.beyond(0, 96)) {
+            Refusals.illegal("advise(" + knots + ")", loom -> loom.advise(knots));
+        }
     }
 }
