@@ -154,10 +154,13 @@ public final class WeaveTest {
         loom.setColours(6);
         loom.setCarry(2);
         loom.setTurning(true);
+        loom.setPressing(true);
         loom.wind(0, 9);
         loom.would(5, 1);
         loom.advise(96);
         loom.palette(0);
+        Checks.same("pressed knots of the same rows", loom.count(7), 21);
+        loom.setPressing(false);
         Checks.same("row 0", Patterns.colours(loom, 0), "000000000000");
         Checks.same("row 2", Patterns.colours(loom, 2), "010101010101");
         Checks.same("row 7", Patterns.colours(loom, 7), "111111111111");

@@ -7,11 +7,15 @@ public final class WouldTest {
         wouldOfASlope();
         wouldOfFewerColours();
         wouldAsTheLoomIs();
+        wouldIsWhatIsWovenThen();
         wouldWithoutThread();
         wouldChangesNothing();
         wouldBeyondItsBounds();
         adviseOfASlope();
         adviseOfPressedRows();
+        adviseCarriedAsTheLoomIs();
+        adviseTurningAsTheLoomIs();
+        adviseIsByWhatWouldBe();
         adviseTheLeastOff();
         adviseTheFewestOfSeveral();
         adviseNone();
@@ -57,6 +61,36 @@ public final class WouldTest {
         loom.setColours(6);
         Checks.same("what is kept stays", loom.count(7), 16);
         Checks.same("of the pattern now", loom.would(2, 1), 4800);
+    }
+
+    /** Rows of many shades, two of them the same, on a loom that is set by its number from 0 to 11. */
+    private static TapestryRuns uneven(int setting) {
+        TapestryRuns loom = new TapestryRuns();
+        for (int y = 0; y < 8; y++) {
+            loom.row(y, 20 + 30 * y, 14 - 4 * y);
+        }
+        loom.like(4, 3);
+        loom.setCarry(setting % 3);
+        loom.setTurning(setting / 3 % 2 == 1);
+        loom.setPressing(setting >= 6);
+        return loom;
+    }
+
+    private static void wouldIsWhatIsWovenThen() {
+        for (int setting = 0; setting < 12; setting++) {
+            for (int many = 2; many <= 6; many++) {
+                TapestryRuns loom = uneven(setting);
+                String told = loom.would(many, 0) + " " + loom.would(many, 1) + " " + loom.would(many, 2);
+                loom.setColours(many);
+                int knots = loom.weave();
+                int colours = 0;
+                for (int colour = 0; colour < 6; colour++) {
+                    colours += loom.thread(colour, 2) < 0 ? 0 : 1;
+                }
+                Checks.same("would(" + many + ", 0 to 2), loom " + setting, told,
+                        colours + " " + loom.count(6) + " " + knots);
+            }
+        }
     }
 
     private static TapestryRuns withoutThread() {
@@ -115,6 +149,80 @@ public final class WouldTest {
         Checks.same("pressed, 12", loom.advise(12), 5);
         Checks.same("pressed, 9", loom.advise(9), 2);
         Checks.same("pressed, 8", loom.advise(8), -1);
+    }
+
+    /**
+     * All cells are of 128, but two in row 1 of 126. Up to five colours are 127 and 128 (the first mean is cut), six are 126
+     * and 128. An error of -1 lets the cell ahead want 127: by way 1 row 1 has 3 knots, by way 0, or with six colours, 5.
+     */
+    private static TapestryRuns twoDarkCells(int way, boolean turning) {
+        TapestryRuns loom = new TapestryRuns();
+        loom.set(1, 1, 126);
+        loom.set(3, 1, 126);
+        loom.setCarry(way);
+        loom.setTurning(turning);
+        return loom;
+    }
+
+    private static void advised(TapestryRuns loom, String what, int knots, int due) {
+        Checks.same(what + ", advise(" + knots + ")", loom.advise(knots), due);
+    }
+
+    private static void adviseCarriedAsTheLoomIs() {
+        TapestryRuns notAtAll = twoDarkCells(0, false);
+        advised(notAtAll, "way 0", 18, -1);
+        advised(notAtAll, "way 0", 19, 6);
+        TapestryRuns ahead = twoDarkCells(1, false);
+        advised(ahead, "way 1", 16, -1);
+        advised(ahead, "way 1", 17, 2);
+        advised(ahead, "way 1", 18, 2);
+        advised(ahead, "way 1", 19, 6);
+        ahead.setPressing(true);
+        advised(ahead, "way 1, pressed", 11, -1);
+        advised(ahead, "way 1, pressed", 12, 2);
+        advised(ahead, "way 1, pressed", 14, 6);
+        ahead.setCarry(0);
+        advised(ahead, "way 0 from now on, pressed", 13, -1);
+        advised(ahead, "way 0 from now on, pressed", 14, 6);
+    }
+
+    /** Row 1 is turned: the cells 2 and 0 want 127 now, so that it has 2 knots. */
+    private static void adviseTurningAsTheLoomIs() {
+        TapestryRuns turning = twoDarkCells(1, true);
+        advised(turning, "turning", 15, -1);
+        advised(turning, "turning", 16, 2);
+        advised(turning, "turning", 18, 2);
+        advised(turning, "turning", 19, 6);
+        turning.weave();
+        Checks.same("row 1", Patterns.colours(turning, 1), "000011111111");
+        turning.setTurning(false);
+        advised(turning, "not any more", 16, -1);
+        advised(turning, "not any more", 17, 2);
+    }
+
+    private static void adviseIsByWhatWouldBe() {
+        for (int setting = 0; setting < 12; setting++) {
+            TapestryRuns loom = uneven(setting);
+            int[] off = new int[7];
+            int[] knots = new int[7];
+            for (int many = 2; many <= 6; many++) {
+                off[many] = loom.would(many, 1);
+                knots[many] = loom.would(many, 2);
+            }
+            for (int most = 0; most <= 96; most++) {
+                advised(loom, "loom " + setting, most, bestOf(off, knots, most));
+            }
+        }
+    }
+
+    private static int bestOf(int[] off, int[] knots, int most) {
+        int best = -1;
+        for (int many = 6; many >= 2; many--) {
+            if (knots[many] <= most && (best < 0 || off[many] <= off[best])) {
+                best = many;
+            }
+        }
+        return best;
     }
 
     /** Four colours are 15, 20, 160 and 170; five are 15, 20, 160, 165 and 175; six are 10, 20, 20, 160, 165 and 175. */
